@@ -454,6 +454,18 @@ public final class PromiseTests {
         i.toss(0, 0, 17, 0, 3);
         i.toss(0, 0, 20, 0, 5);
         due("11 3 away is too far", () -> i.lies(0, 1), 17);
+        HoopFair k = Texts.of(KNOCKS + "knock 4");
+        k.toss(0, 0, 17, 0, 3);
+        k.toss(0, 0, 23, 0, 3);
+        k.toss(0, 0, 20, 0, 2);
+        due("11 of two the oldest goes", () -> k.lies(0, 1), 16);
+        due("11 of two the later one stays", () -> k.lies(1, 1), 23);
+        HoopFair l = Texts.of(KNOCKS + "knock 9");
+        l.toss(0, 0, 17, 0, 3);
+        l.toss(0, 0, 20, 0, 2);
+        l.toss(0, 0, 23, 0, 3);
+        due("11 17 9 went to 16 10 and is flat; the next is 20 6", () -> l.lies(1, 1), 19);
+        due("11 it goes away by y, too", () -> l.lies(1, 2), 5);
         HoopFair j = Texts.of(KNOCKS + "knock 9;counts 1");
         Texts.law(j, "strict 9 if throws>0");
         j.toss(0, 0, 18, 0, 3);
@@ -826,6 +838,8 @@ public final class PromiseTests {
         f.toss(0, 0, 20, 0, 3);
         due("31 threes are counted from the first of these", () -> f.stop(0, 0, 20, 0, 3, true), 8100);
         due("31 behind the third", () -> f.stop(0, 0, 20, 0, 3, false), 3);
+        Texts.law(f, "right 9 if throws>4");
+        due("31 four of 3000 less two begun threes", () -> f.stop(0, 0, 20, 0, 3, true), 10200);
         HoopFair g = Texts.of("block 20 9 side 2 prize 3;hoop 6 oval 0;person 99;price 9");
         due("31 of several the least", () -> g.stop(0, 0, 20, 0, 3, false), 0);
         due("31 from", () -> f.stop(0, 0, 60, 0, 0, true), ARGUMENT);
@@ -986,18 +1000,22 @@ public final class PromiseTests {
         HoopFair f = Texts.of(SURE);
         due("38 sure, fewest", () -> f.span(0, 0, 20, 3, 40, false), 40);
         due("38 sure, most", () -> f.span(0, 0, 20, 3, 40, true), 40);
-        int fewest = 99;
-        int most = 0;
-        for (int seed = 1; seed <= 6; seed++) {
-            f.seed(seed);
-            int counted = f.trial(1, 0, 20, 3, 7);
-            fewest = Math.min(fewest, counted);
-            most = Math.max(most, counted);
+        boolean differ = false;
+        for (int n = 0; n <= 40; n++) {
+            int fewest = 99;
+            int most = 0;
+            for (int seed = 1; seed <= 6; seed++) {
+                f.seed(seed);
+                int counted = f.trial(1, 0, 20, 3, n);
+                fewest = Math.min(fewest, counted);
+                most = Math.max(most, counted);
+            }
+            differ |= fewest < most;
+            f.seed(77);
+            CHECK.due("38 fewest of " + n, f.span(1, 0, 20, 3, n, false), fewest);
+            CHECK.due("38 most of " + n, f.span(1, 0, 20, 3, n, true), most);
         }
-        CHECK.due("38 they differ", fewest < most, true);
-        f.seed(77);
-        due("38 fewest", () -> f.span(1, 0, 20, 3, 7, false), fewest);
-        due("38 most", () -> f.span(1, 0, 20, 3, 7, true), most);
+        CHECK.due("38 they differ", differ, true);
         due("38 the seed stays", () -> f.seed(1), 77);
         due("38 nothing stays", () -> f.count(7), 0);
         due("38 none", () -> f.span(1, 0, 20, 3, 0, true), 0);
@@ -1027,6 +1045,12 @@ public final class PromiseTests {
         due("39 one that counted was not robbed", () -> f.robbed(0), 1);
         f.clear();
         due("39 whether it lies yet or not", () -> f.robbed(0), 1);
+        HoopFair g = Texts.of(KNOCKS + "bounce 1");
+        Texts.law(g, "strict 9;short 2");
+        due("39 lands at 20 7", () -> g.toss(0, 0, 20, 0, 3), -1);
+        due("39 by strict 0 it would have bounced over", () -> g.robbed(-1), 1);
+        Texts.fair(g, "bounce 0");
+        due("39 by BOUNCE as it is now", () -> g.robbed(-1), 0);
         due("39 no person", () -> f.robbed(2), INDEX);
         due("39 -2", () -> f.robbed(-2), INDEX);
     }
