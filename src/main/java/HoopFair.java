@@ -319,8 +319,7 @@ public final class HoopFair {
         if (what < 0 || what > 2) {
             throw new NoSuchElementException("a way to throw has no such thing");
         }
-        aim.stand(stall, person, hoop, from);
-        odds.sweep(stall, aim);
+        sweep(person, hoop, from);
         return odds.bestOf(block, what);
     }
 
@@ -328,6 +327,7 @@ public final class HoopFair {
         needPerson(person);
         needHoop(hoop);
         needBlock(block);
+        odds.forget();
         return plans.bestPlace(stall, person, hoop, block);
     }
 
@@ -335,14 +335,14 @@ public final class HoopFair {
         needPerson(person);
         needHoop(hoop);
         needFrom(from);
-        aim.stand(stall, person, hoop, from);
-        odds.sweep(stall, aim);
+        sweep(person, hoop, from);
         return odds.reach();
     }
 
     public int places(int person, int hoop, int k) throws IndexOutOfBoundsException {
         needPerson(person);
         needHoop(hoop);
+        odds.forget();
         return plans.fewestPlaces(stall, person, hoop, k);
     }
 
@@ -350,8 +350,7 @@ public final class HoopFair {
         needPerson(person);
         needHoop(hoop);
         needFrom(from);
-        aim.stand(stall, person, hoop, from);
-        odds.sweep(stall, aim);
+        sweep(person, hoop, from);
         return stall.price * 100 / 3 - odds.bestWorth();
     }
 
@@ -372,7 +371,7 @@ public final class HoopFair {
             needBlock(block);
         }
         needFrom(from);
-        aim.stand(stall, person, hoop, from);
+        sweep(person, hoop, from);
         return plans.arrange(stall, block);
     }
 
@@ -402,6 +401,7 @@ public final class HoopFair {
         if (what < 0 || what > 2) {
             throw new NoSuchElementException("a game has no such thing");
         }
+        odds.forget();
         plans.weigh(stall, person, from, hoops);
         switch (what) {
             case 0:
@@ -516,8 +516,15 @@ public final class HoopFair {
     // ---- what a call needs
 
     private void take(int person, int hoop, int from, int height, int pace) {
+        odds.forget();
         aim.stand(stall, person, hoop, from);
         aim.raise(height, pace);
+    }
+
+    private void sweep(int person, int hoop, int from) {
+        odds.forget();
+        aim.stand(stall, person, hoop, from);
+        odds.sweep(stall, aim);
     }
 
     private void needBlock(int block) {
@@ -595,24 +602,21 @@ public final class HoopFair {
         }
 
         int at(int row, int column) {
-            int cell = cellOf(row, column);
-            return cell >= 0 && cell < cells.length ? cells[cell] : 0;
+            int cell = row * width + column;
+            boolean isThere = row >= 0 && row < size && column >= 0 && column < width;
+            return isThere && cell >= 0 && cell < cells.length ? cells[cell] : 0;
         }
 
         void put(int row, int column, int value) {
-            int cell = cellOf(row, column);
-            if (cell >= 0 && cell < cells.length) {
+            int cell = row * width + column;
+            boolean isThere = row >= 0 && row < size && column >= 0 && column < width;
+            if (isThere && cell >= 0 && cell < cells.length) {
                 cells[cell] = value;
             }
         }
 
         void putLast(int column, int value) {
             put(size - 1, column, value);
-        }
-
-        private int cellOf(int row, int column) {
-            boolean isThere = row >= 0 && row < size && column >= 0 && column < width;
-            return isThere ? row * width + column : NONE;
         }
 
         /** A row of zeros comes behind the others, and its number is told; NONE if there is no room. */
@@ -777,11 +781,13 @@ public final class HoopFair {
         }
 
         boolean takes(String word) {
-            if (!isNext(WORD) || value() != word.length()) {
+            boolean isThere = next >= 0 && next < things && next < kinds.length && next < begins.length && next < values.length;
+            if (!isThere || kinds[next] != WORD || values[next] != word.length()) {
                 return false;
             }
             for (int i = 0; i < word.length(); i++) {
-                if (at(begin() + i) != word.charAt(i)) {
+                int place = begins[next] + i;
+                if (place < 0 || place >= bytes.length || bytes[place] != word.charAt(i)) {
                     return false;
                 }
             }
@@ -1464,26 +1470,22 @@ public final class HoopFair {
             return i >= 0 && i < heededSize && i < heeded.length ? heeded[i] : NONE;
         }
 
+        /** WHAT COMES of a hoop at a place. */
         int fall(int hoop, int x, int y, int strict) {
             heed(hoop, strict, x, y, 0);
-            return settle(x, y);
+            int block = countsFor(x, y);
+            return block >= 0 ? block : isTouchingAny(x, restY, false) ? ASLANT : NONE;
         }
 
-        /** WHAT COMES of the hoop that is heeded, at a place that is heeded; restY: where it came to. */
-        int settle(int x, int y) {
+        /** The block that the hoop heeded counts for at a place heeded, or NONE; restY: where it came to. */
+        int countsFor(int x, int y) {
             restY = y;
             int block = firstOver(x, y);
-            if (block >= 0) {
-                return block;
-            }
-            if (isTouchingAny(x, y, true)) {
+            if (block < 0 && isTouchingAny(x, y, true)) {
                 restY = y + bounce;
                 block = firstOver(x, restY);
-                if (block >= 0) {
-                    return block;
-                }
             }
-            return isTouchingAny(x, restY, false) ? ASLANT : NONE;
+            return block;
         }
 
         private int firstOver(int x, int y) {
@@ -1689,8 +1691,21 @@ public final class HoopFair {
         }
     }
 
-    /** What one throw is likely to do, and of all heights and paces the best for each block. */
+    /**
+     * What one throw is likely to do, and of all heights and paces the best for each block. The same places come up for
+     * throw after throw, so that what counts there is kept, as long as the stall, the hoop and the strict stay the same.
+     */
     private static final class Odds {
+        private static final int WIDE = 72;
+        private static final int DEEP = 48;
+        private static final int RIM = 6;
+        /** What a place holds: the mark of its time, times this, and the block, with NONE as 0. */
+        private static final int MARK = 16;
+
+        private final int[] counts;
+        private int mark;
+        private int hoop;
+        private int strict;
         private final int[] ways;
         private final int[] best;
         private final int[] bestHeight;
@@ -1700,30 +1715,54 @@ public final class HoopFair {
         private int reach;
 
         Odds() {
+            counts = new int[WIDE * DEEP];
             ways = new int[10];
             best = new int[10];
             bestHeight = new int[10];
             bestPace = new int[10];
             all = 1;
+            mark = 1;
+        }
+
+        /** The stall may be another one from now on. */
+        void forget() {
+            mark++;
         }
 
         void tally(Stall stall, Aim aim) {
             Arrays.fill(ways, 0);
             int spread = aim.spread();
-            int x = aim.x();
-            int y = aim.y();
             all = (2 * spread + 1) * (2 * spread + 1);
-            if (!stall.heed(aim.fact(Aim.HOOP), aim.strict(), x, y, spread)) {
+            if (!stall.heed(aim.fact(Aim.HOOP), aim.strict(), aim.x(), aim.y(), spread)) {
                 return;
             }
-            for (int dx = -spread; dx <= spread; dx++) {
-                for (int dy = -spread; dy <= spread; dy++) {
-                    int came = stall.settle(x + dx, y + dy);
-                    if (came >= 0 && came < ways.length) {
-                        ways[came]++;
+            if (hoop != aim.fact(Aim.HOOP) || strict != aim.strict()) {
+                hoop = aim.fact(Aim.HOOP);
+                strict = aim.strict();
+                forget();
+            }
+            int mostX = aim.x() + spread;
+            int mostY = aim.y() + spread;
+            for (int x = mostX - 2 * spread; x <= mostX; x++) {
+                for (int y = mostY - 2 * spread; y <= mostY; y++) {
+                    int block = countsAt(stall, x, y);
+                    if (block >= 0 && block < ways.length) {
+                        ways[block]++;
                     }
                 }
             }
+        }
+
+        private int countsAt(Stall stall, int x, int y) {
+            int cell = (x + RIM) * DEEP + y + RIM;
+            boolean isKept = x >= -RIM && x < WIDE - RIM && y >= -RIM && y < DEEP - RIM;
+            if (!isKept || cell < 0 || cell >= counts.length) {
+                return stall.countsFor(x, y);
+            }
+            if (counts[cell] / MARK != mark) {
+                counts[cell] = mark * MARK + stall.countsFor(x, y) + 1;
+            }
+            return counts[cell] % MARK - 1;
         }
 
         int waysOf(int block) {
@@ -1906,6 +1945,7 @@ public final class HoopFair {
             int prize = stall.blocks.at(block, Stall.PRIZE);
             for (int side = 1; side <= 9; side++) {
                 stall.blocks.put(block, Stall.SIDE, side);
+                odds.forget();
                 odds.sweep(stall, aim);
                 if (odds.bestOf(block, 0) * prize * 3 <= stall.price * 10000) {
                     return side;
@@ -1914,8 +1954,8 @@ public final class HoopFair {
             return NONE;
         }
 
+        /** By the odds that are swept. */
         int arrange(Stall stall, int block) {
-            odds.sweep(stall, aim);
             int size = stall.blocks.size();
             int full = stall.blocks.asBits();
             setLeast(full, 0);
@@ -2157,7 +2197,7 @@ public final class HoopFair {
 
         Past(Law none) {
             stalls = new Stall[MOST];
-            for (int i = 0; i < MOST; i++) {
+            for (int i = 0; i < stalls.length; i++) {
                 stalls[i] = new Stall(none);
             }
             next = 0;
