@@ -649,6 +649,14 @@ public final class PromiseTests {
         HoopFair g = Texts.of("block 10 10 side 2 prize 1;block 12 10 side 2 prize 2;hoop 6 oval 0");
         due("20 the least such", () -> g.comes(0, 11, 10, 0), 0);
         due("20 the other", () -> g.comes(0, 12, 10, 0), 1);
+        HoopFair i = Texts.of("block 20 10 side 9 prize 1;block 20 17 side 1 prize 2;hoop 3 oval 0;person 99;person 0;bounce 3");
+        due("20 bounces over one that it did not touch", () -> i.comes(0, 20, 14, 0), 1);
+        Texts.law(i, "far 2;spread 2");
+        due("21 and has a way so", () -> i.ways(0, 0, 20, 0, 4, 1), 1);
+        due("21 of 12 to 16 it has 14", () -> i.ways(1, 0, 20, 0, 4, 1), 1);
+        due("21 of 15 to 19 it has 17", () -> i.ways(1, 0, 20, 0, 5, 1), 1);
+        Texts.law(i, "far 3;spread 2");
+        due("21 of 13 to 17 it has both", () -> i.ways(1, 0, 20, 0, 4, 1), 2);
         HoopFair h = Texts.of("block 5 10 side 2 prize 1;hoop 6 oval 0;bounce 0");
         due("20 bounce 0", () -> h.comes(0, 5, 8, 0), -2);
     }
