@@ -32,7 +32,7 @@ public final class HoopFair {
     private int fault;
 
     public HoopFair() {
-        Law none = new Law(NONE, new int[0], false);
+        Law none = new Law(NONE, new int[0], 0);
         tape = new Tape();
         fairReader = new FairReader(tape);
         lawReader = new LawReader(tape);
@@ -940,12 +940,13 @@ public final class HoopFair {
 
         private final int lines;
         private final int[] steps;
-        private final boolean mindsHeight;
+        private final int facts;
 
-        Law(int lines, int[] steps, boolean mindsHeight) {
+        /** facts: those that its text speaks of, as bits. */
+        Law(int lines, int[] steps, int facts) {
             this.lines = lines;
             this.steps = steps;
-            this.mindsHeight = mindsHeight;
+            this.facts = facts;
         }
 
         int lines() {
@@ -960,8 +961,8 @@ public final class HoopFair {
             return place >= 0 && place < steps.length ? steps[place] : 0;
         }
 
-        boolean mindsHeight() {
-            return mindsHeight;
+        boolean minds(int fact) {
+            return (facts >> fact & 1) == 1;
         }
     }
 
@@ -974,7 +975,7 @@ public final class HoopFair {
         private final int[] steps;
         private int length;
         private int lines;
-        private boolean mindsHeight;
+        private int facts;
 
         LawReader(Tape tape) {
             this.tape = tape;
@@ -983,13 +984,13 @@ public final class HoopFair {
 
         Law made() {
             int used = Math.max(0, Math.min(length, steps.length));
-            return new Law(lines, Arrays.copyOf(steps, used), mindsHeight);
+            return new Law(lines, Arrays.copyOf(steps, used), facts);
         }
 
         boolean reads() {
             length = 0;
             lines = 0;
-            mindsHeight = false;
+            facts = 0;
             tape.start();
             if (tape.isAtEnd()) {
                 return true;
@@ -1080,7 +1081,7 @@ public final class HoopFair {
                 return readsAny(depth + 1) && tape.takesSign(')');
             }
             if (tape.takes("wet")) {
-                emit(Law.FACT, Aim.WET);
+                emitFact(Aim.WET);
                 return true;
             }
             if (!readsSum()) {
@@ -1101,14 +1102,22 @@ public final class HoopFair {
                 if (number < 0 && fact < 0) {
                     return false;
                 }
-                emit(fact < 0 ? Law.NUMBER : Law.FACT, fact < 0 ? number : fact);
-                mindsHeight = mindsHeight || fact == Aim.HEIGHT;
+                if (fact < 0) {
+                    emit(Law.NUMBER, number);
+                } else {
+                    emitFact(fact);
+                }
                 emitJoint(Law.PLUS, parts);
                 if (!tape.takesSign('+')) {
                     return true;
                 }
             }
             return false;
+        }
+
+        private void emitFact(int fact) {
+            facts |= 1 << fact;
+            emit(Law.FACT, fact);
         }
 
         /** The first one of a row stands alone; each later one is joined with those ahead of it. */
@@ -1164,6 +1173,8 @@ public final class HoopFair {
         private final int[] stack;
         private int top;
         private Law law;
+        /** The same throw comes up for all paces and places: THE LAW is reckoned anew only where it may say another thing. */
+        private boolean isStale;
 
         Aim(Law law) {
             facts = new int[8];
@@ -1172,9 +1183,11 @@ public final class HoopFair {
             stack = new int[40];
             top = 0;
             this.law = law;
+            isStale = true;
         }
 
         void stand(Stall stall, int person, int hoop, int from) {
+            isStale = isStale || law != stall.law;
             law = stall.law;
             setFact(WHO, person);
             setFact(HOOP, hoop);
@@ -1198,7 +1211,7 @@ public final class HoopFair {
         }
 
         boolean mindsHeight() {
-            return law.mindsHeight();
+            return law.minds(HEIGHT);
         }
 
         int fact(int which) {
@@ -1206,8 +1219,9 @@ public final class HoopFair {
         }
 
         private void setFact(int which, int value) {
-            if (which >= 0 && which < facts.length) {
+            if (which >= 0 && which < facts.length && facts[which] != value) {
                 facts[which] = value;
+                isStale = isStale || law.minds(which);
             }
         }
 
@@ -1232,6 +1246,10 @@ public final class HoopFair {
         }
 
         private void reckon() {
+            if (!isStale) {
+                return;
+            }
+            isStale = false;
             Arrays.fill(sums, 0);
             if (law.lines() < 0) {
                 add(SPREADS, 2);
@@ -1729,12 +1747,13 @@ public final class HoopFair {
             mark++;
         }
 
-        void tally(Stall stall, Aim aim) {
+        /** The ways of one throw: whether there can be any. */
+        boolean tally(Stall stall, Aim aim) {
             Arrays.fill(ways, 0);
             int spread = aim.spread();
             all = (2 * spread + 1) * (2 * spread + 1);
             if (!stall.heed(aim.fact(Aim.HOOP), aim.strict(), aim.x(), aim.y(), spread)) {
-                return;
+                return false;
             }
             if (hoop != aim.fact(Aim.HOOP) || strict != aim.strict()) {
                 hoop = aim.fact(Aim.HOOP);
@@ -1751,6 +1770,7 @@ public final class HoopFair {
                     }
                 }
             }
+            return true;
         }
 
         private int countsAt(Stall stall, int x, int y) {
@@ -1801,8 +1821,9 @@ public final class HoopFair {
             for (int height = 0; height < heights; height++) {
                 for (int pace = 0; pace < PACES; pace++) {
                     aim.raise(height, pace);
-                    tally(stall, aim);
-                    compare(stall, height, pace);
+                    if (tally(stall, aim)) {
+                        compare(stall, height, pace);
+                    }
                 }
             }
         }
