@@ -1,0 +1,14 @@
+import java.io.IOException;
+
+/** Each sentence of the document that names a boundary case, with a test of its own. */
+public final class SentenceTests {
+    public static void main(String[] args) throws IOException {
+        Check check = new Check("SentenceTests");
+        Sentences s = new Sentences(check);
+        new TextSentences(s).run();
+        new ThrowSentences(s).run();
+        new PlanSentences(s).run();
+        new CallSentences(s).run();
+        check.end();
+    }
+}
