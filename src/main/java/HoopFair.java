@@ -710,40 +710,43 @@ public final class HoopFair {
         void start() {
             things = 0;
             next = 0;
-            int place = 0;
-            while (place < size) {
-                if (at(place) == ' ') {
-                    place++;
-                } else if (isLetter(at(place))) {
-                    place += splitWord(place);
+            for (int place = 0; place < size; place++) {
+                if (isLetter(at(place))) {
+                    growWord(place);
                 } else if (isDigit(at(place))) {
-                    place += splitNumber(place);
-                } else {
+                    growNumber(place);
+                } else if (at(place) != ' ') {
                     put(SIGN, place, at(place));
-                    place++;
                 }
             }
         }
 
-        private int splitWord(int begin) {
-            int length = 1;
-            while (length < size && isLetter(at(begin + length))) {
-                length++;
+        private void growWord(int place) {
+            if (isLetter(at(place - 1))) {
+                setLatest(latest(values) + 1);
+            } else {
+                put(WORD, place, 1);
             }
-            put(WORD, begin, length);
-            return length;
         }
 
-        private int splitNumber(int begin) {
-            int length = 0;
-            int number = 0;
-            while (length < size && isDigit(at(begin + length))) {
+        private void growNumber(int place) {
+            int digit = at(place) - '0';
+            if (!isDigit(at(place - 1))) {
+                put(NUMBER, place, digit);
+            } else {
                 // Whatever the number is: a 4th digit is wrong.
-                number = length < 3 ? number * 10 + at(begin + length) - '0' : NONE;
-                length++;
+                setLatest(place - latest(begins) < 3 ? latest(values) * 10 + digit : NONE);
             }
-            put(NUMBER, begin, number);
-            return length;
+        }
+
+        private int latest(int[] row) {
+            return things > 0 && things <= row.length ? row[things - 1] : 0;
+        }
+
+        private void setLatest(int value) {
+            if (things > 0 && things <= values.length) {
+                values[things - 1] = value;
+            }
         }
 
         private void put(int kind, int begin, int value) {

@@ -45,6 +45,8 @@ final class CallSentences {
         seed();
         undoImageBack();
         count();
+        noSuchOne();
+        noNumber();
         toldFirst();
         nothingChanges();
     }
@@ -630,6 +632,15 @@ final class CallSentences {
     }
 
     private void count() {
+        s.says("4 LINES of THE LAW (NONE without one)");
+        HoopFair law = new HoopFair();
+        s.due(() -> law.count(4), -1);
+        s.wrongLaw(law, "far|");
+        s.due(() -> law.count(4), -1);
+        s.law(law, "", 0);
+        s.due(() -> law.count(4), 0);
+        s.law(law, Sentences.lines("far 1", 12), 12);
+        s.due(() -> law.count(4), 12);
         s.says("14 acts that can be UNDONE. NONE for another what.");
         HoopFair f = Texts.of(SURE + ";knock 2;counts 1;bounce 3");
         s.law(f, "spread 0;far 0", 2);
@@ -646,6 +657,60 @@ final class CallSentences {
         for (int what : new int[] {LEAST, -1, 15, 16, GREATEST}) {
             s.due(() -> f.count(what), -1);
         }
+    }
+
+    private void noSuchOne() {
+        s.says("IndexOutOfBoundsException: there is no such BLOCK, HOOP, PERSON.");
+        String[] texts = {"", "block 20 9 side 2 prize 30;hoop 6 oval 0", "block 20 9 side 2 prize 30;person 9", "hoop 6 oval 0;person 9"};
+        for (int missing = 0; missing < texts.length; missing++) {
+            HoopFair f = Texts.of(texts[missing]);
+            boolean noPerson = missing < 2;
+            boolean noHoop = missing % 2 == 0;
+            boolean noBlock = missing % 3 == 0;
+            Check.Call[] ofAll = {() -> f.ways(0, 0, 20, 0, 3, 0), () -> f.how(0, 0, 20, 0, 0), () -> f.where(0, 0, 0),
+                () -> f.large(0, 0, 20, 0), () -> f.arranged(0, 0, 20, 0), () -> f.till(0, 0, 20, 0, 3, 0)};
+            dueNone(ofAll, true);
+            Check.Call[] thrown = {() -> f.aims(0, 0, 20, 0, 3, 0), () -> f.toss(0, 0, 20, 0, 3), () -> f.worth(0, 0, 20, 0, 3),
+                () -> f.ways(0, 0, 20, 0, 3, -1), () -> f.reached(0, 0, 20), () -> f.places(0, 0, -1), () -> f.earns(0, 0, 20),
+                () -> f.arranged(0, 0, 20, -1), () -> f.stop(0, 0, 20, 0, 3, true), () -> f.trial(0, 0, 20, 3, 1),
+                () -> f.span(0, 0, 20, 3, 1, true)};
+            dueNone(thrown, noPerson || noHoop);
+            dueNone(new Check.Call[] {() -> f.over(0, 0, 0, 0), () -> f.spots(0, 0)}, noHoop || noBlock);
+            dueNone(new Check.Call[] {() -> f.hoop(0, 0), () -> f.wets(0, true), () -> f.comes(0, 20, 9, 0)}, noHoop);
+            dueNone(new Check.Call[] {() -> f.block(0, 0), () -> f.move(0, 20, 9), () -> f.narrowest(0, 0), () -> f.led(0, true)}, noBlock);
+            dueNone(new Check.Call[] {() -> f.person(0, 0), () -> f.skill(0, 5), () -> f.robbed(0)}, noPerson);
+            s.due(() -> f.gap(0, 1), INDEX);
+        }
+    }
+
+    private void dueNone(Check.Call[] calls, boolean none) {
+        for (Check.Call call : calls) {
+            s.due(Check.answerOf(call).equals(INDEX), none);
+        }
+    }
+
+    private void noNumber() {
+        s.says("IllegalArgumentException: a number is none (FROM 0 to 59, HEIGHT 0 to 5, PACE 0 to 11), or two are one.");
+        HoopFair f = Texts.of(SURE);
+        Numbered[] froms = {n -> f.aims(0, 0, n, 0, 3, 0), n -> f.toss(0, 0, n, 0, 3), n -> f.ways(0, 0, n, 0, 3, -1),
+            n -> f.worth(0, 0, n, 0, 3), n -> f.how(0, 0, n, 0, 0), n -> f.reached(0, 0, n), n -> f.earns(0, 0, n), n -> f.large(0, 0, n, 0),
+            n -> f.arranged(0, 0, n, -1), n -> f.till(0, 0, n, 0, 3, 0), n -> f.stop(0, 0, n, 0, 3, true), n -> f.game(0, n, 1, 0),
+            n -> f.trial(0, 0, n, 3, 1), n -> f.span(0, 0, n, 3, 1, true)};
+        for (Numbered call : froms) {
+            dueBounds(0, 59, ARGUMENT, call);
+        }
+        Numbered[] heights = {n -> f.aims(0, 0, 20, n, 3, 0), n -> f.toss(0, 0, 20, n, 3), n -> f.ways(0, 0, 20, n, 3, -1),
+            n -> f.worth(0, 0, 20, n, 3), n -> f.till(0, 0, 20, n, 3, 0), n -> f.stop(0, 0, 20, n, 3, true)};
+        for (Numbered call : heights) {
+            dueBounds(0, 5, ARGUMENT, call);
+        }
+        Numbered[] paces = {n -> f.aims(0, 0, 20, 0, n, 0), n -> f.toss(0, 0, 20, 0, n), n -> f.ways(0, 0, 20, 0, n, -1),
+            n -> f.worth(0, 0, 20, 0, n), n -> f.till(0, 0, 20, 0, n, 0), n -> f.stop(0, 0, 20, 0, n, true), n -> f.trial(0, 0, 20, n, 1),
+            n -> f.span(0, 0, 20, n, 1, true)};
+        for (Numbered call : paces) {
+            dueBounds(0, 11, ARGUMENT, call);
+        }
+        s.due(() -> f.gap(0, 0), ARGUMENT);
     }
 
     private void toldFirst() {

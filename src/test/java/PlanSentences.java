@@ -175,7 +175,14 @@ final class PlanSentences {
     private void howAtTheEnds() {
         HoopFair f = Texts.of("block 20 39 side 1 prize 7;block 20 0 side 1 prize 5;block 59 20 side 1 prize 3;block 0 20 side 1 prize 2;"
                 + "hoop 15 oval 0;person 0;person 60;bounce 2");
-        s.law(f, "spread 4;short 6 if height<1;far 9 if height>0;left 6 if height>2;right 9 if height>3;strict 1 if pace>9", 6);
+        String law = "spread 4;short 6 if height<1;far 9 if height>0;left 6 if height>2;right 9 if height>3";
+        s.law(f, law, 5);
+        dueAsWays(f);
+        s.law(f, law + ";strict 1 if pace>9", 6);
+        dueAsWays(f);
+    }
+
+    private void dueAsWays(HoopFair f) {
         for (int from : new int[] {0, 3, 18, 20, 22, 55, 59}) {
             for (int person = 0; person < 2; person++) {
                 int place = from;
