@@ -1,6 +1,6 @@
 import java.io.IOException;
 
-/** Each sentence of the document that names a boundary case, with a test of its own. */
+/** The sentences of the document, each with a test of its own. */
 public final class SentenceTests {
     public static void main(String[] args) throws IOException {
         Check check = new Check("SentenceTests");
@@ -9,6 +9,7 @@ public final class SentenceTests {
         new ThrowSentences(s).run();
         new PlanSentences(s).run();
         new CallSentences(s).run();
+        new RestSentences(s).run();
         check.end();
     }
 }
